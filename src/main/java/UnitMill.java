@@ -2291,7 +2291,8 @@ public final class UnitMill {
     }
 
     void begin() {
-      Arrays.fill(memory, 0);
+      // Words of calls are cleared as they begin.
+      Arrays.fill(memory, 0, MOST_UNITS * MOST_TOP_SIZE, 0);
       disk.closeAll();
       current = processes[0];
       current.renew(FIRST_SIZE, -1);

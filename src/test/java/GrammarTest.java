@@ -1,0 +1,136 @@
+/** The grammar of UNITS: promise 3, WRONG 1, and how deep things may stand in one another. */
+final class GrammarTest {
+  public static void main(String[] args) {
+    right();
+    wrongWords();
+    cut();
+    nesting();
+    Mill.end();
+  }
+
+  private static void right() {
+    Mill m = new Mill("units that are right");
+    m.right("DEFINITION MODULE D; CONST VAR CONST c = 1; d = c + 1; VAR x, y: INTEGER; z: ARRAY d OF CHAR; "
+        + "PROCEDURE p; PROCEDURE q(); PROCEDURE r(a, b: CHAR; VAR c, d: ARRAY 2 OF PROCESS): PROCESS; "
+        + "CONST e = 5; PROCEDURE f: INTEGER; END D.");
+    m.right("DEFINITION MODULE E; FROM D IMPORT c, x; FROM D IMPORT p; END E.");
+    m.right("IMPLEMENTATION MODULE E; END E.");
+    m.right("MODULE M; FROM D IMPORT c; END M.");
+    m.right("MODULE M; VAR a: CHAR; PROCEDURE p; END p; VAR b: CHAR; PROCEDURE q; VAR VAR x: CHAR; VAR y: CHAR; "
+        + "BEGIN END q; CONST k = 1; BEGIN ; ; p; ; q() ; END M.");
+    m.right("MODULE M; VAR i: INTEGER; BEGIN IF TRUE THEN ELSIF FALSE THEN ; ELSIF TRUE THEN i := 1; ELSE END; "
+        + "WHILE FALSE DO END; REPEAT UNTIL TRUE; LOOP EXIT END; FOR i := 1 TO 2 BY 3 DO END; RETURN END M.");
+  }
+
+  private static void wrongWords() {
+    Mill m = new Mill("words that can't stand there");
+    m.right("DEFINITION MODULE D; CONST c = 1; END D.");
+    m.wrong(1, "^PROGRAM A; END A.");
+    m.wrong(1, "DEFINITION ^A; END A.");
+    m.wrong(1, "IMPLEMENTATION ^DEFINITION MODULE A; END A.");
+    m.wrong(1, "MODULE A^: END A.");
+    m.wrong(1, "MODULE A; FROM ^; END A.");
+    m.wrong(1, "MODULE A; FROM D ^EXPORT c; END A.");
+    m.wrong(1, "MODULE A; FROM D IMPORT ^; END A.");
+    m.wrong(1, "MODULE A; FROM D IMPORT c, ^; END A.");
+    m.wrong(1, "MODULE A; FROM D IMPORT c ^END A.");
+    m.wrong(1, "MODULE A; CONST k = 1; ^FROM D IMPORT c; END A.");
+    m.wrong(1, "MODULE A; ^x: CHAR; END A.");
+    m.wrong(1, "MODULE A; CONST c ^:= 1; END A.");
+    m.wrong(1, "MODULE A; CONST c = ^; END A.");
+    m.wrong(1, "MODULE A; CONST c = 1^, d = 2; END A.");
+    m.wrong(1, "MODULE A; VAR x^; END A.");
+    m.wrong(1, "MODULE A; VAR x: ^REAL; END A.");
+    m.wrong(1, "MODULE A; VAR x: ARRAY 3 ^CHAR; END A.");
+    m.wrong(1, "MODULE A; VAR x: ARRAY 3 OF ^ARRAY 3 OF CHAR; END A.");
+    m.wrong(1, "MODULE A; VAR x: CHAR ^END A.");
+    m.wrong(1, "MODULE A; PROCEDURE ^; END A.");
+    m.wrong(1, "MODULE A; PROCEDURE p(x: ^ARRAY 3 OF CHAR); END p; END A.");
+    m.wrong(1, "MODULE A; PROCEDURE p(x: CHAR^, y: CHAR); END p; END A.");
+    m.wrong(1, "MODULE A; PROCEDURE p(x: CHAR;^); END p; END A.");
+    m.wrong(1, "MODULE A; PROCEDURE p(VAR ^VAR x: CHAR); END p; END A.");
+    m.wrong(1, "MODULE A; PROCEDURE p: ^ARRAY 3 OF CHAR; END p; END A.");
+    m.wrong(1, "MODULE A; PROCEDURE p; ^CONST c = 1; END p; END A.");
+    m.wrong(1, "MODULE A; PROCEDURE p; ^PROCEDURE q; END q; END p; END A.");
+    m.wrong(1, "MODULE A; PROCEDURE p; END p ^END A.");
+    m.wrong(1, "MODULE A; PROCEDURE p; END ^; END A.");
+    m.wrong(1, "DEFINITION MODULE A; PROCEDURE p; ^BEGIN END p; END A.");
+    m.wrong(1, "DEFINITION MODULE A; ^BEGIN END A.");
+    m.wrong(1, "MODULE A; BEGIN END A^; ");
+    m.wrong(1, "MODULE A; BEGIN END ^.");
+    m.wrong(1, "MODULE A; END A.^.");
+    m.wrong(1, "MODULE A; END A. ^MODULE B; END B.");
+    statements(m);
+  }
+
+  private static void statements(Mill m) {
+    String[] wrong = {
+      "i := 1 ^j := 2", "a[1 ^:= 2", "a[1] ^; i := 1", "a[^] := 1", "i := (1 ^; HALT", "i := 1 + ^; HALT",
+      "i := 1 ^1", "i := ^* 2", "b := i = j ^= i", "i := 1 + ^- 2", "b := NOT ^; HALT", "i := ^; HALT",
+      "IF TRUE ^DO END", "IF TRUE THEN ^UNTIL", "IF TRUE THEN ELSE ^ELSIF TRUE THEN END", "IF TRUE THEN ELSE ^ELSE END",
+      "WHILE TRUE ^THEN END", "REPEAT ^END", "REPEAT UNTIL ^; HALT", "LOOP ^UNTIL TRUE", "FOR ^1 := 1 TO 2 DO END",
+      "FOR i ^= 1 TO 2 DO END", "FOR i := 1 ^DO END", "FOR i := 1 TO 2 BY ^DO END", "FOR i := 1 TO 2 ^THEN END",
+      "HALT ^HALT", "^)EXIT", "WRITEINT(1 ^; HALT", "WRITEINT(1 ^2)", "WRITEINT(^,)", "WRITEINT(1, ^)",
+      "INC(i, ^)", "^THEN", "^1 := 2", "^\"a\"", "INC(i ^+ 1)", "INC(a[1] ^+ 1)", "WRITESTRING(\"ab\" ^= \"c\")",
+      "RETURN ^]"
+    };
+    for (String statement : wrong) {
+      m.wrong(1, Mill.in(statement));
+    }
+    m.wrong(4, Mill.in("^i = 1"));
+  }
+
+  /** Every text that is cut short is WRONG 1 at its end, or at a word that was cut. */
+  private static void cut() {
+    Mill m = new Mill("texts that are cut short");
+    String text = "MODULE A; CONST c = 1; VAR x: INTEGER; PROCEDURE p(VAR y: CHAR): CHAR; BEGIN RETURN y END p; "
+        + "BEGIN x := (c + 1) * 2 END A.";
+    for (int n = 0; n < text.length(); n++) {
+      m = new Mill("the first " + n + " bytes");
+      m.feed(text);
+      int what = m.x.compile(n);
+      int place = m.x.wrong(1);
+      m.due("it is WRONG", what > 0 ? 1 : 0, 1);
+      boolean ends = n == 0 || text.charAt(n - 1) == ' ' || text.charAt(n - 1) == ';';
+      if (ends && what == 1) {
+        m.due("place", place, n);
+      }
+    }
+  }
+
+  private static String repeat(String what, int times) {
+    StringBuilder all = new StringBuilder();
+    for (int i = 0; i < times; i++) {
+      all.append(what);
+    }
+    return all.toString();
+  }
+
+  private static void nesting() {
+    Mill m = new Mill("in one another");
+    m.right(Mill.in("i := " + repeat("(", 18) + "1" + repeat(")", 18)));
+    m.wrong(1, Mill.in("i := " + repeat("(", 19) + "^1" + repeat(")", 19)));
+    m.wrong(1, Mill.in("i := " + repeat("(", 19) + "^(1" + repeat(")", 20)));
+    m.right("MODULE A; CONST c = " + repeat("(", 19) + "1" + repeat(")", 19) + "; END A.");
+    m.wrong(1, "MODULE A; CONST c = " + repeat("(", 20) + "^1" + repeat(")", 20) + "; END A.");
+    m.right(Mill.in("b := " + repeat("NOT ", 18) + "b"));
+    m.wrong(1, Mill.in("b := " + repeat("NOT ", 19) + "^b"));
+    m.right(Mill.in("b := " + repeat("NOT ", 17) + "(b)"));
+    m.wrong(1, Mill.in("b := " + repeat("NOT ", 18) + "(^b)"));
+    m.right(Mill.in("i := " + repeat("a[", 18) + "1" + repeat("]", 18)));
+    m.wrong(1, Mill.in("i := " + repeat("a[", 19) + "^1" + repeat("]", 19)));
+    m.right(Mill.in("i := " + repeat("ABS(", 18) + "1" + repeat(")", 18)));
+    m.wrong(1, Mill.in("i := " + repeat("ABS(", 19) + "^1" + repeat(")", 19)));
+    m.right(Mill.in(repeat("LOOP ", 19) + "EXIT" + repeat(" END", 19)));
+    m.wrong(1, Mill.in(repeat("LOOP ", 20) + "^EXIT" + repeat(" END", 20)));
+    m.right(Mill.in(repeat("LOOP ", 20) + repeat(" END", 20)));
+    m.wrong(1, Mill.in(repeat("LOOP ", 20) + "^LOOP END" + repeat(" END", 20)));
+    m.right(Mill.in(repeat("IF b THEN ", 18) + "i := 1" + repeat(" END", 18)));
+    m.wrong(1, Mill.in(repeat("IF b THEN ", 19) + "i := ^1" + repeat(" END", 19)));
+    m.wrong(1, Mill.in(repeat("IF b THEN ", 19) + "IF ^b THEN END" + repeat(" END", 19)));
+    m.wrong(1, Mill.in(repeat("LOOP ", 19) + "FOR i := ^1 TO 2 DO END" + repeat(" END", 19)));
+    m.right(Mill.in("i := 1" + repeat(" + 1", 500)));
+    m.right(Mill.in("i := " + repeat("(1) + ", 300) + "(1)"));
+    m.right(Mill.in(repeat("LOOP EXIT END; ", 100)));
+  }
+}
