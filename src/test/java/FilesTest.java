@@ -21,6 +21,13 @@ final class FilesTest {
         + "OPENFILE(\"a\", j); WRITEINT(j); OPENFILE(\"a\", j); WRITEINT(j)", 1, "012345-124-1");
     does("NEWFILE(\"a\", i); WRITEBYTE(i, 5); FOR j := 1 TO 5 DO OPENFILE(\"a\", a[0]) END; NEWFILE(\"b\", i); WRITEINT(i); "
         + "NEWFILE(\"a\", i); WRITEINT(i); WRITEINT(LENGTH(0))", 1, "-1-11");
+    Mill none = new Mill("no number is free");
+    none.does("FOR j := 1 TO 6 DO NEWFILE(\"a\", i) END; NEWFILE(\"b\", i); WRITEINT(i)", 1, "-1");
+    none.refused("nothing is done", none.x.file(1, 0), 2);
+    none.does("OPENFILE(\"a\", i); WRITEBYTE(i, 1)", 1, "");
+    none.taken("file(0, 0)", none.x.file(0, 0), 1);
+    none.does("NEWFILE(\"a\", i); WRITEINT(i); WRITEINT(LENGTH(i))", 1, "00");
+    none.taken("made empty", none.x.file(0, 0), 0);
     Mill m = new Mill("12 FILES");
     StringBuilder twelve = new StringBuilder();
     for (char c = 'a'; c <= 'm'; c++) {

@@ -123,6 +123,12 @@ final class FitTest {
     unfit("i := ^HALT");
     unfit("i := ^HALT()");
     unfit("i := ^a(1)");
+    unfit("i := 1 + ^i(1)");
+    unfit("i := 1 + ^n()");
+    unfit("i := 1 + ^n");
+    unfit("i := 1 + ^a");
+    unfit("i := 1 + ^i[1]");
+    unfit("b := NOT ^e");
     fits("i := e(); n(); n; b := f(e())");
     Mill m = new Mill("CONSTS and imported ones");
     m.right("DEFINITION MODULE D; CONST k = 1; VAR x: INTEGER; y: ARRAY 2 OF INTEGER; PROCEDURE f: INTEGER; END D.");

@@ -4,6 +4,7 @@ final class KeysTest {
     unitAnswers();
     order();
     circles();
+    procedures();
     old();
     lacking();
     asItWasCompiled();
@@ -115,6 +116,20 @@ final class KeysTest {
     m.dueText("OUT", m.out(), "pqpq65");
   }
 
+  /** Procedures of the DEFINITION and others, told in another order. */
+  private static void procedures() {
+    Mill m = new Mill("procedures of a DEFINITION");
+    m.right("DEFINITION MODULE D; PROCEDURE p(): INTEGER; CONST c = 1; PROCEDURE q(): INTEGER; END D.");
+    m.right("IMPLEMENTATION MODULE D; PROCEDURE r(): INTEGER; BEGIN RETURN 1 END r; PROCEDURE q(): INTEGER; BEGIN RETURN 2 END q; "
+        + "PROCEDURE s(): INTEGER; BEGIN RETURN 4 END s; PROCEDURE p(): INTEGER; BEGIN RETURN r() * 1000 + q() * 100 + s() * 10 END p; "
+        + "BEGIN WRITEINT(p()) END D.");
+    m.right("MODULE M; FROM D IMPORT q, p; PROCEDURE r; BEGIN WRITECHAR(\"r\") END r; BEGIN WRITEINT(q()); r; WRITEINT(p()) END M.");
+    m.taken("link(1)", m.x.link(1), 2);
+    m.taken("start()", m.x.start(), 0);
+    m.taken("run(99)", m.x.run(99), 1);
+    m.dueText("OUT", m.out(), "12402r1240");
+  }
+
   private static void old() {
     Mill m = new Mill("OLD");
     both(m, "A", "", "");
@@ -154,6 +169,14 @@ final class KeysTest {
     m.right("DEFINITION MODULE A; CONST c = 1; END A.");
     m.right("MODULE A; END A.");
     m.taken("link(2): OLD is ahead of LACKING", m.x.link(2), -21);
+
+    Mill late = new Mill("nothing is LINKED, though some units came");
+    both(late, "A", "", "");
+    late.right("DEFINITION MODULE B; VAR b: CHAR; END B.");
+    late.right("MODULE M; FROM A IMPORT a; FROM B IMPORT b; END M.");
+    late.taken("link(2)", late.x.link(2), -3);
+    late.refused("linked(0)", late.x.linked(0), 4);
+    late.refused("start()", late.x.start(), 4);
 
     Mill own = new Mill("the MODULE from which the loader goes is LACKING, too");
     own.right("DEFINITION MODULE M; VAR x: CHAR; END M.");

@@ -25,6 +25,8 @@ final class MachineTest {
     does("WRITEINT(ORD(\"a\")); WRITECHAR(CHR(66)); WRITEINT(ABS(-3)); WRITEINT(ABS(3)); WRITEINT(ORD(ODD(-3))); "
         + "WRITEINT(ORD(ODD(4))); WRITEINT(ORD(TRUE))", 1, "97B33101");
     does("IF (1 < 2) AND (\"a\" <= \"b\") AND (FALSE # TRUE) AND NOT (2 > 3) AND (3 >= 3) THEN WRITECHAR(\"y\") END", 1, "y");
+    does("b := TRUE AND (i = 0) AND TRUE; WRITEINT(ORD(b)); b := FALSE OR FALSE OR (i = 1); WRITEINT(ORD(b)); a[1] := 5; "
+        + "b := (i = 1) OR TRUE AND b; WRITEINT(a[1] + ORD(b)); b := NOT b; WRITEINT(ORD(b))", 1, "1051");
     does("b := yes; IF b = TRUE THEN WRITEINT(k) END; c := \"x\"; IF c = \"x\" THEN WRITECHAR(c) END", 1, "7x");
     does("i := 5; INC(i); INC(i, 10); DEC(i); DEC(i, -3); WRITEINT(i); INC(a[i - 14], i); WRITEINT(a[4])", 1, "1818");
     does("WRITESTRING(\"ab c\"); WRITELN; WRITECHAR(\"'\")", 1, "ab c\n'");

@@ -96,6 +96,11 @@ final class MeaningTest {
     m.wrong(3, "IMPLEMENTATION MODULE D; PROCEDURE p; END p; PROCEDURE ^p; END p; END D.");
     m.right("IMPLEMENTATION MODULE D; PROCEDURE p; VAR c, x: CHAR; END p; END D.");
     m.right("MODULE D; CONST x = 1; VAR c, p: CHAR; END D.");
+    m.wrong(1, "IMPLEMENTATION MODULE D; ^;");
+    m.wrong(3, "MODULE B; VAR x, y, z: CHAR; PROCEDURE ^x; END x; END B.");
+    m.wrong(3, "MODULE B; VAR x, y, z: CHAR; PROCEDURE ^z; END z; END B.");
+    m.wrong(1, "IMPLEMENTATION MODULE D; ^;");
+    m.right("IMPLEMENTATION MODULE D; VAR a, b: CHAR; PROCEDURE p; END p; CONST d = 1; END D.");
   }
 
   private static void hidden() {

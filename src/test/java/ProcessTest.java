@@ -157,6 +157,19 @@ final class ProcessTest {
     m.due("waiting no more", m.x.seen(3), 0);
     m.due("the one that runs", m.x.seen(2), 2);
     m.due("the second PLACE", m.x.word(0, 0), 2);
+    Mill first = new Mill("the first PROCESS waits");
+    first.x.clock(6);
+    first.begin(HEAD + "PROCEDURE e; BEGIN LOOP INC(n) END END e; BEGIN NEWPROCESS(e, 20, p); IOTRANSFER(m, p); WRITEINT(n); "
+        + "IOTRANSFER(m, p); WRITEINT(n) END M.");
+    first.due("run(2)", first.x.run(2), 0);
+    first.due("the one that waits", first.x.seen(3), 1);
+    first.due("run(99)", first.x.run(99), 1);
+    first.dueText("OUT", first.out(), "13");
+    first.due("word p", first.x.word(0, 1), 2);
+    Mill other = new Mill("the first PROCESS waits already");
+    other.begin(HEAD + "PROCEDURE e; BEGIN IOTRANSFER(q, m) END e; BEGIN NEWPROCESS(e, 20, p); IOTRANSFER(m, p) END M.");
+    other.due("run(99)", other.x.run(99), 17);
+    other.due("word q", other.x.word(0, 2), 0);
     Mill twice = new Mill("it can't wait twice");
     twice.ends(HEAD + "PROCEDURE e; BEGIN LOOP WRITECHAR(\"e\"); IOTRANSFER(q, m) END END e; "
         + "BEGIN NEWPROCESS(e, 20, p); TRANSFER(m, p); TRANSFER(r, p) END M.", 17, "ee");

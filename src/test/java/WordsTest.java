@@ -17,6 +17,9 @@ final class WordsTest {
     m.right("MODULE A; (* any byte: \t\r\u00ff\" *) END A.\n");
     m.right("MODULE A; (* (*) *) *) END A.");
     m.wrong(1, "MODULE A; (* (*) *) END A.");
+    m.right("MODULE A; END A.(*");
+    m.right("MODULE A; END A.(* *)");
+    m.wrong(1, "MODULE A; END A.^(");
     m.wrong(1, "MODULE A (* (* *) ; END A.");
     m.wrong(1, "MODULE A; ^\tEND A.");
     m.wrong(1, "MODULE A; ^\rEND A.");
@@ -79,6 +82,23 @@ final class WordsTest {
     m.wrong(1, "MODULE A; VAR b: BOOLEAN; BEGIN b := 1 <^> 2 END A.");
     m.wrong(4, "MODULE A; VAR b: BOOLEAN; BEGIN ^b : = TRUE END A.");
     m.wrong(1, "MODULE A; BEGIN ^! END A.");
+    m.wrong(1, "MODULE A; VAR x: CHAR; BEGIN x :=");
+    m.feed("MODULE A; VAR x: CHAR; BEGIN x :=");
+    m.taken("compile, cut in the midst of :=", m.x.compile(32), 4);
+    m.taken("wrong(1)", m.x.wrong(1), 29);
+    m.feed("MODULE A; END A.x");
+    m.taken("compile, cut behind the .", m.x.compile(16), 0);
+    m.feed("MODULE AB; END AB.");
+    m.taken("compile, cut in the midst of a NAME", m.x.compile(16), 3);
+    m.feed("MODULE A; CONST c = 1234; END A.");
+    m.taken("compile, cut in the midst of a NUMBER", m.x.compile(22), 1);
+    m.taken("wrong(1)", m.x.wrong(1), 22);
+    m.feed("MODULE A; CONST c = 99999; END A.");
+    m.taken("compile, cut in the midst of a NUMBER that is none", m.x.compile(24), 1);
+    m.taken("wrong(1)", m.x.wrong(1), 24);
+    m.feed("MODULE A; CONST c = \"a\"; END A.");
+    m.taken("compile, cut in the midst of a STRING", m.x.compile(22), 1);
+    m.taken("wrong(1)", m.x.wrong(1), 20);
     m.wrong(1, "MODULE A; BEGIN HALT ^& END A.");
     m.wrong(1, "MODULE A; CONST c = 3 ^' 4; END A.");
   }
