@@ -2,6 +2,7 @@
 final class MachineTest {
   public static void main(String[] args) {
     numbers();
+    relations();
     order();
     control();
     procedures();
@@ -32,6 +33,23 @@ final class MachineTest {
     does("WRITESTRING(\"ab c\"); WRITELN; WRITECHAR(\"'\")", 1, "ab c\n'");
   }
 
+  /** Each relation of a lower, the same and a higher one, as the BOOLEAN that it makes. */
+  private static void relations() {
+    String[] signs = {"=", "#", "<", "<=", ">", ">="};
+    String[] due = {"010", "101", "100", "110", "001", "011"};
+    for (int s = 0; s < signs.length; s++) {
+      StringBuilder numbers = new StringBuilder("j := 5; ");
+      StringBuilder letters = new StringBuilder("c := \"n\"; ");
+      for (int i = 4; i <= 6; i++) {
+        numbers.append("b := ").append(i).append(signs[s]).append("j; WRITEINT(ORD(b)); ");
+        letters.append("b := \"").append((char) ('i' + i)).append("\"").append(signs[s]).append("c; WRITEINT(ORD(b)); ");
+      }
+      does(numbers.toString(), 1, due[s]);
+      does(letters.toString(), 1, due[s]);
+    }
+    does("b := TRUE = b; WRITEINT(ORD(b)); b := TRUE # b; WRITEINT(ORD(b)); b := b = b; WRITEINT(ORD(b))", 1, "011");
+  }
+
   private static String withTrace(String statements) {
     return "MODULE M; VAR i: INTEGER; a: ARRAY 9 OF INTEGER; b: BOOLEAN; "
         + "PROCEDURE t(n: INTEGER): INTEGER; BEGIN WRITEINT(n); RETURN n END t; "
@@ -60,6 +78,12 @@ final class MachineTest {
         "3");
     does("IF FALSE THEN WRITEINT(1) ELSIF FALSE THEN WRITEINT(3) ELSE WRITEINT(5) END; IF FALSE THEN HALT END; HALT; WRITEINT(6)",
         1, "5");
+    does("FOR i := 0 TO 3 DO IF i = 0 THEN WRITEINT(0) ELSIF i = 1 THEN WRITEINT(1) ELSIF i = 2 THEN WRITEINT(2) ELSE WRITEINT(3) END; "
+        + "WRITECHAR(\",\") END", 1, "0,1,2,3,");
+    does("FOR i := 1 TO 3 DO FOR j := 1 TO 1 DO END; WRITEINT(i) END; WRITEINT(i)", 1, "1234");
+    does("FOR i := 1 TO 3 DO FOR j := 9 TO 1 DO END; WRITEINT(i) END; WRITEINT(i)", 1, "1234");
+    does("FOR i := 1 TO 3 DO LOOP FOR j := 1 TO 9 DO END; EXIT END; WRITEINT(i) END", 1, "123");
+    does("FOR i := 1 TO 3 DO FOR j := 32767 TO 32767 DO END; WRITEINT(i) END", 1, "123");
     does("WHILE i < 3 DO WRITEINT(i); INC(i) END; WRITEINT(i)", 1, "0123");
     does("REPEAT WRITEINT(i); INC(i) UNTIL i >= 3; REPEAT WRITEINT(i) UNTIL TRUE", 1, "0123");
     does("LOOP INC(i); LOOP INC(j); IF j > i THEN EXIT END END; WRITEINT(j); IF i = 4 THEN EXIT END END", 1, "2345");
@@ -100,6 +124,8 @@ final class MachineTest {
   private static void traps() {
     does("i := 32767; WRITEINT(1); i := i + 1; WRITEINT(2)", 11, "1");
     does("i := -32767; i := i - 2", 11, "");
+    does("i := 32766; i := i + 1; WRITEINT(i); i := -32767; i := i - 1; WRITEINT(i); i := 151 * 217; WRITEINT(i)", 1,
+        "32767-3276832767");
     does("i := 182; i := i * i", 11, "");
     does("i := -32767 - 1; i := -i", 11, "");
     does("i := -32767 - 1; i := ABS(i)", 11, "");

@@ -5,6 +5,7 @@ final class MeaningTest {
     imports();
     fromWhereOn();
     twice();
+    afterWrong();
     hidden();
     ends();
     Mill.end();
@@ -101,6 +102,25 @@ final class MeaningTest {
     m.wrong(3, "MODULE B; VAR x, y, z: CHAR; PROCEDURE ^z; END z; END B.");
     m.wrong(1, "IMPLEMENTATION MODULE D; ^;");
     m.right("IMPLEMENTATION MODULE D; VAR a, b: CHAR; PROCEDURE p; END p; CONST d = 1; END D.");
+  }
+
+  /** Nothing of a text that was WRONG is there in the next one. */
+  private static void afterWrong() {
+    Mill m = new Mill("behind a text that was WRONG");
+    m.wrong(1, "MODULE A; CONST k = 1; VAR v: CHAR; PROCEDURE p(g: INTEGER); VAR x: INTEGER; BEGIN x := ^; END p; END A.");
+    m.wrong(2, "MODULE A; CONST c = ^x; END A.");
+    m.wrong(1, "MODULE A; PROCEDURE p(g: INTEGER); VAR x: INTEGER; BEGIN x := ^; END p; END A.");
+    m.wrong(2, "MODULE A; BEGIN ^g := 1 END A.");
+    m.wrong(2, "MODULE A; BEGIN ^k END A.");
+    m.right("MODULE A; VAR k, v, p, g, x: INTEGER; BEGIN g := 1 END A.");
+    m.right("DEFINITION MODULE D; VAR x: INTEGER; END D.");
+    m.right("MODULE B; FROM D IMPORT x; END B.");
+    m.right("DEFINITION MODULE E; CONST c = 1; END E.");
+    m.right("MODULE B; FROM E IMPORT c; END B.");
+    m.wrong(1, "MODULE B; BEGIN LOOP FOR ^; END B.");
+    m.wrong(4, "MODULE B; BEGIN ^EXIT END B.");
+    m.wrong(1, "MODULE B; PROCEDURE f: CHAR; BEGIN RETURN -^");
+    m.wrong(4, "MODULE B; BEGIN ^RETURN \"a\" END B.");
   }
 
   private static void hidden() {

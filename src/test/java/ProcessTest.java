@@ -138,6 +138,14 @@ final class ProcessTest {
     body.ends(HEAD + "PROCEDURE f(x: INTEGER): INTEGER; BEGIN RETURN x + n END f; PROCEDURE e; BEGIN IOTRANSFER(p, m); n := 100; "
         + "TRANSFER(p, m) END e; BEGIN NEWPROCESS(e, 20, p); TRANSFER(m, p); WRITECHAR(\"a\"); WRITEINT(7 + f(1) * 2); WRITEINT(n) END M.",
         1, "a209100");
+    Mill each = new Mill("the CLOCK with each STEP");
+    each.x.clock(1);
+    each.begin(HEAD + "PROCEDURE e; BEGIN IOTRANSFER(p, m); WRITECHAR(\"t\"); TRANSFER(q, m) END e; "
+        + "BEGIN NEWPROCESS(e, 20, p); TRANSFER(m, p); WRITECHAR(\".\"); WRITECHAR(\".\") END M.");
+    each.due("run(4)", each.x.run(4), 0);
+    each.due("the one that runs", each.x.seen(2), 2);
+    each.due("run(99)", each.x.run(99), 1);
+    each.dueText("OUT", each.out(), "t..");
     Mill none = new Mill("no one waits");
     none.x.clock(1);
     none.does("FOR i := 1 TO 3 DO WRITEINT(i) END", 1, "123");
