@@ -272,6 +272,7 @@ final class FitTest {
     unfit("^TRANSFER(q)");
     unfit("IOTRANSFER(q, ^1)");
     unfit("IOTRANSFER(q, ^i)");
+    new Mill("one GROUP").wrong(4, "MODULE A; VAR q: PROCESS; PROCEDURE g(x: CHAR); BEGIN END g; BEGIN NEWPROCESS(^g, 20, q) END A.");
     Mill m = new Mill("IOTRANSFER's second PLACE");
     String head = "MODULE A; VAR g: PROCESS; h: ARRAY 2 OF PROCESS; PROCEDURE p(x: PROCESS; VAR y: PROCESS); "
         + "VAR z: PROCESS; w: ARRAY 2 OF PROCESS; BEGIN ";

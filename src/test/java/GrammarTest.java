@@ -113,6 +113,10 @@ final class GrammarTest {
     m.wrong(1, Mill.in("i := " + repeat("(", 19) + "^(1" + repeat(")", 20)));
     m.right("MODULE A; CONST c = " + repeat("(", 19) + "1" + repeat(")", 19) + "; END A.");
     m.wrong(1, "MODULE A; CONST c = " + repeat("(", 20) + "^1" + repeat(")", 20) + "; END A.");
+    m.right("MODULE A; VAR x: ARRAY " + repeat("(", 19) + "1" + repeat(")", 19) + " OF CHAR; END A.");
+    m.wrong(1, "MODULE A; VAR x: ARRAY " + repeat("(", 20) + "^1" + repeat(")", 20) + " OF CHAR; END A.");
+    m.right(Mill.in("FOR i := 1 TO 2 BY " + repeat("(", 18) + "1" + repeat(")", 18) + " DO END"));
+    m.wrong(1, Mill.in("FOR i := 1 TO 2 BY " + repeat("(", 19) + "^1" + repeat(")", 19) + " DO END"));
     m.right(Mill.in("b := " + repeat("NOT ", 18) + "b"));
     m.wrong(1, Mill.in("b := " + repeat("NOT ", 19) + "^b"));
     m.right(Mill.in("b := " + repeat("NOT ", 17) + "(b)"));

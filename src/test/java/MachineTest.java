@@ -83,6 +83,7 @@ final class MachineTest {
     does("FOR i := 1 TO 3 DO FOR j := 1 TO 1 DO END; WRITEINT(i) END; WRITEINT(i)", 1, "1234");
     does("FOR i := 1 TO 3 DO FOR j := 9 TO 1 DO END; WRITEINT(i) END; WRITEINT(i)", 1, "1234");
     does("FOR i := 1 TO 3 DO LOOP FOR j := 1 TO 9 DO END; EXIT END; WRITEINT(i) END", 1, "123");
+    does("FOR i := 1 TO 3 DO LOOP FOR j := 1 TO 9 DO LOOP EXIT END; EXIT END END; WRITEINT(i) END", 1, "123");
     does("FOR i := 1 TO 3 DO FOR j := 32767 TO 32767 DO END; WRITEINT(i) END", 1, "123");
     does("WHILE i < 3 DO WRITEINT(i); INC(i) END; WRITEINT(i)", 1, "0123");
     does("REPEAT WRITEINT(i); INC(i) UNTIL i >= 3; REPEAT WRITEINT(i) UNTIL TRUE", 1, "0123");
@@ -134,6 +135,7 @@ final class MachineTest {
     does("i := -1; DEC(i, -32767 - 1); WRITEINT(i)", 1, "32767");
     does("i := -32767 - 1; i := i DIV 1; WRITEINT(i MOD 32767)", 1, "32766");
     does("i := 5 DIV j", 12, "");
+    does("j := 1; i := 5 DIV j; WRITEINT(i); i := 5 MOD j; WRITEINT(i)", 1, "50");
     does("i := 5 MOD j", 12, "");
     does("j := -1; i := 5 DIV j", 12, "");
     does("a[5] := 1", 13, "");

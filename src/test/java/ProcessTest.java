@@ -181,6 +181,22 @@ final class ProcessTest {
     Mill twice = new Mill("it can't wait twice");
     twice.ends(HEAD + "PROCEDURE e; BEGIN LOOP WRITECHAR(\"e\"); IOTRANSFER(q, m) END END e; "
         + "BEGIN NEWPROCESS(e, 20, p); TRANSFER(m, p); TRANSFER(r, p) END M.", 17, "ee");
+    Mill index = new Mill("the second PLACE is the one that was meant then");
+    index.x.clock(9);
+    index.begin(HEAD + "PROCEDURE e; BEGIN n := 1; a[n] := m; IOTRANSFER(a[n - 1], a[n]); WRITECHAR(\"e\"); HALT END e; "
+        + "BEGIN NEWPROCESS(e, 20, p); TRANSFER(m, p); n := 2; m := p; LOOP END END M.");
+    index.due("run(5)", index.x.run(5), 0);
+    index.due("the first PLACE", index.x.word(0, 5), 2);
+    index.due("the second PLACE", index.x.word(0, 6), 1);
+    index.due("run(99)", index.x.run(3), 0);
+    index.x.clock(0);
+    index.due("the CLOCK that never comes", index.x.run(99), 0);
+    index.x.clock(9);
+    index.due("run(99)", index.x.run(99), 1);
+    index.dueText("OUT", index.out(), "e");
+    index.due("the second PLACE", index.x.word(0, 6), 1);
+    index.due("no other one", index.x.word(0, 0), 2);
+    index.due("no other one", index.x.word(0, 7), 0);
     Mill same = new Mill("both PLACES are the same");
     same.x.clock(7);
     same.begin(HEAD + "PROCEDURE e; BEGIN IOTRANSFER(m, m); WRITECHAR(\"e\"); HALT END e; "
