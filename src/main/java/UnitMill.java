@@ -1390,15 +1390,20 @@ public final class UnitMill {
     /** Of a STRING the number of its word, of a procedure its own, of an EXPRESSION what is known of it. */
     private int argument(int wanted, int depth) {
       int at = words.place();
+      int word = words.now;
+      // The grammar makes each ARGUMENT an EXPRESSION, so one that may be a STRING or a PLACE alone is a level, too.
+      if (depth >= MOST_NESTED) {
+        words.fail(WRONG_WORD, at);
+        return word;
+      }
       if (wanted == WANT_STRING) {
-        int word = words.now;
         if (!words.take(Words.STRING)) {
           words.fail(WRONG_FIT, at);
         }
         return word;
       }
       if (wanted == WANT_PROCEDURE || (wanted & BY_VAR) != 0) {
-        return namedArgument(wanted, depth);
+        return namedArgument(wanted, depth + 1);
       }
       int known = expression(depth);
       int type = known & SIMPLE_BITS;

@@ -5,6 +5,7 @@ final class GrammarTest {
     wrongWords();
     cut();
     nesting();
+    nestedArguments();
     Mill.end();
   }
 
@@ -145,9 +146,52 @@ final class GrammarTest {
     m.wrong(1, Mill.in(repeat("REPEAT ", 19) + "REPEAT UNTIL ^b" + repeat(" UNTIL b", 19)));
     m.wrong(1, Mill.in(repeat("LOOP ", 19) + "a[^1] := 2" + repeat(" END", 19)));
     m.wrong(1, Mill.in(repeat("LOOP ", 19) + "WRITEINT(^1)" + repeat(" END", 19)));
-    m.wrong(1, Mill.in(repeat("LOOP ", 19) + "INC(i, ^1)" + repeat(" END", 19)));
+    m.wrong(1, Mill.in(repeat("LOOP ", 19) + "INC(^i, 1)" + repeat(" END", 19)));
     m.right(Mill.in("i := 1" + repeat(" + 1", 500)));
     m.right(Mill.in("i := " + repeat("(1) + ", 300) + "(1)"));
     m.right(Mill.in(repeat("LOOP EXIT END; ", 100)));
+  }
+
+  /** Each ARGUMENT is a level, whatever is wanted there. */
+  private static void nestedArguments() {
+    String[] calls = {
+      "INC(^i)", "DEC(^i, 1)", "READINT(^i)", "TRANSFER(^p, q)", "IOTRANSFER(^p, q)", "WRITESTRING(^\"\")",
+      "WRITESTRING(^\"a\")", "WRITESTRING(^\"ab\")", "OPENFILE(^\"ab\", i)", "NEWFILE(^\"ab\", i)",
+      "DELETEFILE(^\"ab\")", "NEWPROCESS(^P, 16, p)", "READBYTE(^i, i)", "V(^i)", "W(^a)", "b := F(^i)",
+    };
+    for (String call : calls) {
+      // What stands behind := is a level itself.
+      int tooMany = call.startsWith("b := ") ? 18 : 19;
+      Mill one = new Mill("levels of " + call);
+      one.right(inLoops(tooMany - 1, call.replace("^", "")));
+      one.wrong(1, inLoops(tooMany, call));
+    }
+    Mill m = new Mill("levels of ARGUMENTS");
+    m.right(inLoops(17, "INC(a[1])"));
+    m.wrong(1, inLoops(18, "INC(a[^1])"));
+    m.wrong(1, inLoops(19, "INC(^a[1])"));
+    m.wrong(1, inLoops(18, "OPENFILE(\"ab\", a[^1])"));
+    m.wrong(1, inLoops(18, "TRANSFER(p, r[^1])"));
+    m.wrong(1, inLoops(17, "b := F(a[^1])"));
+    m.right(inLoops(16, "b := F(a[1])"));
+    m.right(Mill.in("INC(" + repeat("a[", 18) + "1" + repeat("]", 18) + ")"));
+    m.wrong(1, Mill.in("INC(" + repeat("a[", 19) + "^1" + repeat("]", 19) + ")"));
+    // At the 21st its word can't stand there, whatever it is.
+    m.wrong(1, inLoops(19, "INC(^3)"));
+    m.wrong(1, inLoops(19, "INC(^none)"));
+    m.wrong(1, inLoops(19, "WRITESTRING(^i)"));
+    m.wrong(1, inLoops(19, "NEWPROCESS(^16, 16, p)"));
+    m.wrong(4, inLoops(18, "INC(^3)"));
+    m.wrong(2, inLoops(18, "INC(^none)"));
+    m.wrong(4, inLoops(18, "WRITESTRING(^i)"));
+    m.wrong(4, inLoops(18, "NEWPROCESS(^16, 16, p)"));
+    m.right(inLoops(19, "HALT; WRITELN; P; P()"));
+  }
+
+  private static String inLoops(int loops, String statements) {
+    return "MODULE A; VAR i: INTEGER; b: BOOLEAN; p, q: PROCESS; a: ARRAY 5 OF INTEGER; r: ARRAY 2 OF PROCESS; "
+        + "PROCEDURE P; END P; PROCEDURE V(VAR x: INTEGER); END V; PROCEDURE W(VAR x: ARRAY 5 OF INTEGER); END W; "
+        + "PROCEDURE F(VAR x: INTEGER): BOOLEAN; END F; BEGIN "
+        + repeat("LOOP ", loops) + statements + repeat(" END", loops) + " END A.";
   }
 }
