@@ -61,10 +61,10 @@ final class GrammarTest {
     m.wrong(1, "MODULE A; BEGIN END ^.");
     m.wrong(1, "MODULE A; END A.^.");
     m.wrong(1, "MODULE A; END A. ^MODULE B; END B.");
-    statements(m);
+    statements();
   }
 
-  private static void statements(Mill m) {
+  private static void statements() {
     String[] wrong = {
       "i := 1 ^j := 2", "a[1 ^:= 2", "a[1] ^; i := 1", "a[^] := 1", "i := (1 ^; HALT", "i := 1 + ^; HALT",
       "i := 1 ^1", "i := ^* 2", "b := i = j ^= i", "i := 1 + ^- 2", "b := NOT ^; HALT", "i := ^; HALT",
@@ -76,9 +76,9 @@ final class GrammarTest {
       "RETURN ^]"
     };
     for (String statement : wrong) {
-      m.wrong(1, Mill.in(statement));
+      Mill.isWrong("words that can't stand there", 1, Mill.in(statement));
     }
-    m.wrong(4, Mill.in("^i = 1"));
+    Mill.isWrong("no procedure", 4, Mill.in("^i = 1"));
   }
 
   /** Every text that is cut short is WRONG 1 at its end, or at a word that was cut. */
@@ -99,57 +99,48 @@ final class GrammarTest {
     }
   }
 
-  private static String repeat(String what, int times) {
-    StringBuilder all = new StringBuilder();
-    for (int i = 0; i < times; i++) {
-      all.append(what);
-    }
-    return all.toString();
-  }
-
   private static void nesting() {
-    Mill m = new Mill("in one another");
-    m.right(Mill.in("i := " + repeat("(", 18) + "1" + repeat(")", 18)));
-    m.wrong(1, Mill.in("i := " + repeat("(", 19) + "^1" + repeat(")", 19)));
-    m.wrong(1, Mill.in("i := " + repeat("(", 19) + "^(1" + repeat(")", 20)));
-    m.right("MODULE A; CONST c = " + repeat("(", 19) + "1" + repeat(")", 19) + "; END A.");
-    m.wrong(1, "MODULE A; CONST c = " + repeat("(", 20) + "^1" + repeat(")", 20) + "; END A.");
-    m.right("MODULE A; VAR x: ARRAY " + repeat("(", 19) + "1" + repeat(")", 19) + " OF CHAR; END A.");
-    m.wrong(1, "MODULE A; VAR x: ARRAY " + repeat("(", 20) + "^1" + repeat(")", 20) + " OF CHAR; END A.");
-    m.right(Mill.in("FOR i := 1 TO 2 BY " + repeat("(", 18) + "1" + repeat(")", 18) + " DO END"));
-    m.wrong(1, Mill.in("FOR i := 1 TO 2 BY " + repeat("(", 19) + "^1" + repeat(")", 19) + " DO END"));
-    m.right(Mill.in("b := " + repeat("NOT ", 18) + "b"));
-    m.wrong(1, Mill.in("b := " + repeat("NOT ", 19) + "^b"));
-    m.right(Mill.in("b := " + repeat("NOT ", 17) + "(b)"));
-    m.wrong(1, Mill.in("b := " + repeat("NOT ", 18) + "(^b)"));
-    m.right(Mill.in("i := " + repeat("a[", 18) + "1" + repeat("]", 18)));
-    m.wrong(1, Mill.in("i := " + repeat("a[", 19) + "^1" + repeat("]", 19)));
-    m.right(Mill.in("i := " + repeat("ABS(", 18) + "1" + repeat(")", 18)));
-    m.wrong(1, Mill.in("i := " + repeat("ABS(", 19) + "^1" + repeat(")", 19)));
-    m.right(Mill.in(repeat("LOOP ", 19) + "EXIT" + repeat(" END", 19)));
-    m.wrong(1, Mill.in(repeat("LOOP ", 20) + "^EXIT" + repeat(" END", 20)));
-    m.right(Mill.in(repeat("LOOP ", 20) + repeat(" END", 20)));
-    m.wrong(1, Mill.in(repeat("LOOP ", 20) + "^LOOP END" + repeat(" END", 20)));
-    m.right(Mill.in(repeat("IF b THEN ", 18) + "i := 1" + repeat(" END", 18)));
-    m.wrong(1, Mill.in(repeat("IF b THEN ", 19) + "i := ^1" + repeat(" END", 19)));
-    m.wrong(1, Mill.in(repeat("IF b THEN ", 19) + "IF ^b THEN END" + repeat(" END", 19)));
-    m.wrong(1, Mill.in(repeat("LOOP ", 19) + "FOR i := ^1 TO 2 DO END" + repeat(" END", 19)));
-    m.right(Mill.in("b := 1 = " + repeat("(", 18) + "1" + repeat(")", 18)));
-    m.wrong(1, Mill.in("b := 1 = " + repeat("(", 19) + "^1" + repeat(")", 19)));
-    m.right(Mill.in("i := 1 + 2 * " + repeat("(", 18) + "1" + repeat(")", 18)));
-    m.wrong(1, Mill.in("i := 1 + 2 * " + repeat("(", 19) + "^1" + repeat(")", 19)));
-    m.wrong(1, Mill.in("i := -" + repeat("(", 19) + "^1" + repeat(")", 19)));
-    m.right(Mill.in("HALT; " + repeat("LOOP HALT; ", 19) + "EXIT" + repeat(" END", 19)));
-    m.wrong(1, Mill.in("HALT; " + repeat("LOOP HALT; ", 19) + "LOOP ^HALT END" + repeat(" END", 19)));
-    m.right(Mill.in(repeat("IF b THEN ELSIF b THEN ELSE ", 18) + "i := 1" + repeat(" END", 18)));
-    m.wrong(1, Mill.in(repeat("IF b THEN ELSIF b THEN ELSE ", 19) + "i := ^1" + repeat(" END", 19)));
-    m.wrong(1, Mill.in(repeat("REPEAT ", 19) + "REPEAT UNTIL ^b" + repeat(" UNTIL b", 19)));
-    m.wrong(1, Mill.in(repeat("LOOP ", 19) + "a[^1] := 2" + repeat(" END", 19)));
-    m.wrong(1, Mill.in(repeat("LOOP ", 19) + "WRITEINT(^1)" + repeat(" END", 19)));
-    m.wrong(1, Mill.in(repeat("LOOP ", 19) + "INC(^i, 1)" + repeat(" END", 19)));
-    m.right(Mill.in("i := 1" + repeat(" + 1", 500)));
-    m.right(Mill.in("i := " + repeat("(1) + ", 300) + "(1)"));
-    m.right(Mill.in(repeat("LOOP EXIT END; ", 100)));
+    Mill.isRight("in one another", Mill.in("i := " + Mill.times(18, "(") + "1" + Mill.times(18, ")")));
+    Mill.isWrong("in one another", 1, Mill.in("i := " + Mill.times(19, "(") + "^1" + Mill.times(19, ")")));
+    Mill.isWrong("in one another", 1, Mill.in("i := " + Mill.times(19, "(") + "^(1" + Mill.times(20, ")")));
+    Mill.isRight("in one another", "MODULE A; CONST c = " + Mill.times(19, "(") + "1" + Mill.times(19, ")") + "; END A.");
+    Mill.isWrong("in one another", 1, "MODULE A; CONST c = " + Mill.times(20, "(") + "^1" + Mill.times(20, ")") + "; END A.");
+    Mill.isRight("in one another", "MODULE A; VAR x: ARRAY " + Mill.times(19, "(") + "1" + Mill.times(19, ")") + " OF CHAR; END A.");
+    Mill.isWrong("in one another", 1, "MODULE A; VAR x: ARRAY " + Mill.times(20, "(") + "^1" + Mill.times(20, ")") + " OF CHAR; END A.");
+    Mill.isRight("in one another", Mill.in("FOR i := 1 TO 2 BY " + Mill.times(18, "(") + "1" + Mill.times(18, ")") + " DO END"));
+    Mill.isWrong("in one another", 1, Mill.in("FOR i := 1 TO 2 BY " + Mill.times(19, "(") + "^1" + Mill.times(19, ")") + " DO END"));
+    Mill.isRight("in one another", Mill.in("b := " + Mill.times(18, "NOT ") + "b"));
+    Mill.isWrong("in one another", 1, Mill.in("b := " + Mill.times(19, "NOT ") + "^b"));
+    Mill.isRight("in one another", Mill.in("b := " + Mill.times(17, "NOT ") + "(b)"));
+    Mill.isWrong("in one another", 1, Mill.in("b := " + Mill.times(18, "NOT ") + "(^b)"));
+    Mill.isRight("in one another", Mill.in("i := " + Mill.times(18, "a[") + "1" + Mill.times(18, "]")));
+    Mill.isWrong("in one another", 1, Mill.in("i := " + Mill.times(19, "a[") + "^1" + Mill.times(19, "]")));
+    Mill.isRight("in one another", Mill.in("i := " + Mill.times(18, "ABS(") + "1" + Mill.times(18, ")")));
+    Mill.isWrong("in one another", 1, Mill.in("i := " + Mill.times(19, "ABS(") + "^1" + Mill.times(19, ")")));
+    Mill.isRight("in one another", Mill.in(Mill.times(19, "LOOP ") + "EXIT" + Mill.times(19, " END")));
+    Mill.isWrong("in one another", 1, Mill.in(Mill.times(20, "LOOP ") + "^EXIT" + Mill.times(20, " END")));
+    Mill.isRight("in one another", Mill.in(Mill.times(20, "LOOP ") + Mill.times(20, " END")));
+    Mill.isWrong("in one another", 1, Mill.in(Mill.times(20, "LOOP ") + "^LOOP END" + Mill.times(20, " END")));
+    Mill.isRight("in one another", Mill.in(Mill.times(18, "IF b THEN ") + "i := 1" + Mill.times(18, " END")));
+    Mill.isWrong("in one another", 1, Mill.in(Mill.times(19, "IF b THEN ") + "i := ^1" + Mill.times(19, " END")));
+    Mill.isWrong("in one another", 1, Mill.in(Mill.times(19, "IF b THEN ") + "IF ^b THEN END" + Mill.times(19, " END")));
+    Mill.isWrong("in one another", 1, Mill.in(Mill.times(19, "LOOP ") + "FOR i := ^1 TO 2 DO END" + Mill.times(19, " END")));
+    Mill.isRight("in one another", Mill.in("b := 1 = " + Mill.times(18, "(") + "1" + Mill.times(18, ")")));
+    Mill.isWrong("in one another", 1, Mill.in("b := 1 = " + Mill.times(19, "(") + "^1" + Mill.times(19, ")")));
+    Mill.isRight("in one another", Mill.in("i := 1 + 2 * " + Mill.times(18, "(") + "1" + Mill.times(18, ")")));
+    Mill.isWrong("in one another", 1, Mill.in("i := 1 + 2 * " + Mill.times(19, "(") + "^1" + Mill.times(19, ")")));
+    Mill.isWrong("in one another", 1, Mill.in("i := -" + Mill.times(19, "(") + "^1" + Mill.times(19, ")")));
+    Mill.isRight("in one another", Mill.in("HALT; " + Mill.times(19, "LOOP HALT; ") + "EXIT" + Mill.times(19, " END")));
+    Mill.isWrong("in one another", 1, Mill.in("HALT; " + Mill.times(19, "LOOP HALT; ") + "LOOP ^HALT END" + Mill.times(19, " END")));
+    Mill.isRight("in one another", Mill.in(Mill.times(18, "IF b THEN ELSIF b THEN ELSE ") + "i := 1" + Mill.times(18, " END")));
+    Mill.isWrong("in one another", 1, Mill.in(Mill.times(19, "IF b THEN ELSIF b THEN ELSE ") + "i := ^1" + Mill.times(19, " END")));
+    Mill.isWrong("in one another", 1, Mill.in(Mill.times(19, "REPEAT ") + "REPEAT UNTIL ^b" + Mill.times(19, " UNTIL b")));
+    Mill.isWrong("in one another", 1, Mill.in(Mill.times(19, "LOOP ") + "a[^1] := 2" + Mill.times(19, " END")));
+    Mill.isWrong("in one another", 1, Mill.in(Mill.times(19, "LOOP ") + "WRITEINT(^1)" + Mill.times(19, " END")));
+    Mill.isWrong("in one another", 1, Mill.in(Mill.times(19, "LOOP ") + "INC(^i, 1)" + Mill.times(19, " END")));
+    Mill.isRight("in one another", Mill.in("i := 1" + Mill.times(500, " + 1")));
+    Mill.isRight("in one another", Mill.in("i := " + Mill.times(300, "(1) + ") + "(1)"));
+    Mill.isRight("in one another", Mill.in(Mill.times(100, "LOOP EXIT END; ")));
   }
 
   /** Each ARGUMENT is a level, whatever is wanted there. */
@@ -174,8 +165,8 @@ final class GrammarTest {
     m.wrong(1, inLoops(18, "TRANSFER(p, r[^1])"));
     m.wrong(1, inLoops(17, "b := F(a[^1])"));
     m.right(inLoops(16, "b := F(a[1])"));
-    m.right(Mill.in("INC(" + repeat("a[", 18) + "1" + repeat("]", 18) + ")"));
-    m.wrong(1, Mill.in("INC(" + repeat("a[", 19) + "^1" + repeat("]", 19) + ")"));
+    m.right(Mill.in("INC(" + Mill.times(18, "a[") + "1" + Mill.times(18, "]") + ")"));
+    m.wrong(1, Mill.in("INC(" + Mill.times(19, "a[") + "^1" + Mill.times(19, "]") + ")"));
     // At the 21st its word can't stand there, whatever it is.
     m.wrong(1, inLoops(19, "INC(^3)"));
     m.wrong(1, inLoops(19, "INC(^none)"));
@@ -192,6 +183,6 @@ final class GrammarTest {
     return "MODULE A; VAR i: INTEGER; b: BOOLEAN; p, q: PROCESS; a: ARRAY 5 OF INTEGER; r: ARRAY 2 OF PROCESS; "
         + "PROCEDURE P; END P; PROCEDURE V(VAR x: INTEGER); END V; PROCEDURE W(VAR x: ARRAY 5 OF INTEGER); END W; "
         + "PROCEDURE F(VAR x: INTEGER): BOOLEAN; END F; BEGIN "
-        + repeat("LOOP ", loops) + statements + repeat(" END", loops) + " END A.";
+        + Mill.times(loops, "LOOP ") + statements + Mill.times(loops, " END") + " END A.";
   }
 }

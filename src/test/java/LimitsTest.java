@@ -72,46 +72,38 @@ final class LimitsTest {
     m.right("IMPLEMENTATION MODULE A; END A.");
   }
 
-  private static String list(String letter, int from, int to) {
-    StringBuilder all = new StringBuilder();
-    for (int i = from; i <= to; i++) {
-      all.append(i > from ? ", " : "").append(letter).append(i);
-    }
-    return all.toString();
-  }
-
   private static void topNames() {
     Mill m = new Mill("40 NAMES at the top");
-    String forty = "VAR " + list("x", 1, 40) + ": CHAR; ";
+    String forty = "VAR " + Mill.list("x", 1, 40) + ": CHAR; ";
     m.right("MODULE A; " + forty + "END A.");
-    m.wrong(7, "MODULE A; VAR " + list("x", 1, 40) + ", ^y: CHAR; END A.");
+    m.wrong(7, "MODULE A; VAR " + Mill.list("x", 1, 40) + ", ^y: CHAR; END A.");
     m.wrong(7, "MODULE A; " + forty + "CONST ^y = 1; END A.");
     m.wrong(7, "MODULE A; " + forty + "PROCEDURE ^y; END y; END A.");
     m.wrong(3, "MODULE A; " + forty + "PROCEDURE ^x7; END x7; END A.");
-    m.wrong(3, "MODULE A; VAR " + list("x", 1, 40) + ", ^x1: CHAR; END A.");
-    m.right("DEFINITION MODULE D; VAR " + list("x", 1, 38) + ": CHAR; PROCEDURE p; PROCEDURE q; END D.");
+    m.wrong(3, "MODULE A; VAR " + Mill.list("x", 1, 40) + ", ^x1: CHAR; END A.");
+    m.right("DEFINITION MODULE D; VAR " + Mill.list("x", 1, 38) + ": CHAR; PROCEDURE p; PROCEDURE q; END D.");
     m.wrong(7, "IMPLEMENTATION MODULE D; VAR ^z: CHAR; PROCEDURE p; END p; PROCEDURE q; END q; END D.");
     m.right("IMPLEMENTATION MODULE D; PROCEDURE p; END p; PROCEDURE q; END q; END D.");
-    m.right("MODULE B; FROM D IMPORT " + list("x", 1, 38) + ", p; CONST y = 1; END B.");
-    m.wrong(7, "MODULE B; FROM D IMPORT " + list("x", 1, 38) + ", p; CONST y = 1; ^z = 2; END B.");
+    m.right("MODULE B; FROM D IMPORT " + Mill.list("x", 1, 38) + ", p; CONST y = 1; END B.");
+    m.wrong(7, "MODULE B; FROM D IMPORT " + Mill.list("x", 1, 38) + ", p; CONST y = 1; ^z = 2; END B.");
     m.right("DEFINITION MODULE E; VAR z: CHAR; END E.");
-    m.wrong(7, "MODULE B; FROM D IMPORT " + list("x", 1, 38) + ", p, q; FROM E IMPORT ^z; END B.");
-    m.right("DEFINITION MODULE F; FROM D IMPORT " + list("x", 1, 30) + "; VAR " + list("y", 1, 10) + ": CHAR; END F.");
-    m.wrong(7, "DEFINITION MODULE F; FROM D IMPORT " + list("x", 1, 30) + "; VAR " + list("y", 1, 10) + ", ^z: CHAR; END F.");
-    m.right("IMPLEMENTATION MODULE F; VAR " + list("z", 1, 30) + ": CHAR; END F.");
-    m.wrong(7, "IMPLEMENTATION MODULE F; VAR " + list("z", 1, 30) + ", ^w: CHAR; END F.");
+    m.wrong(7, "MODULE B; FROM D IMPORT " + Mill.list("x", 1, 38) + ", p, q; FROM E IMPORT ^z; END B.");
+    m.right("DEFINITION MODULE F; FROM D IMPORT " + Mill.list("x", 1, 30) + "; VAR " + Mill.list("y", 1, 10) + ": CHAR; END F.");
+    m.wrong(7, "DEFINITION MODULE F; FROM D IMPORT " + Mill.list("x", 1, 30) + "; VAR " + Mill.list("y", 1, 10) + ", ^z: CHAR; END F.");
+    m.right("IMPLEMENTATION MODULE F; VAR " + Mill.list("z", 1, 30) + ": CHAR; END F.");
+    m.wrong(7, "IMPLEMENTATION MODULE F; VAR " + Mill.list("z", 1, 30) + ", ^w: CHAR; END F.");
   }
 
   private static void localNames() {
     Mill m = new Mill("20 NAMES in a procedure, 8 in its GROUPS");
-    m.right("MODULE A; PROCEDURE p(" + list("g", 1, 8) + ": CHAR); VAR " + list("x", 1, 12) + ": CHAR; END p; END A.");
-    m.wrong(7, "MODULE A; PROCEDURE p(" + list("g", 1, 8) + ": CHAR); VAR " + list("x", 1, 12) + ", ^y: CHAR; END p; END A.");
-    m.right("MODULE A; PROCEDURE p; VAR " + list("x", 1, 20) + ": CHAR; END p; END A.");
-    m.wrong(7, "MODULE A; PROCEDURE p; VAR " + list("x", 1, 20) + ": CHAR; ^y: CHAR; END p; END A.");
-    m.wrong(3, "MODULE A; PROCEDURE p; VAR " + list("x", 1, 20) + ": CHAR; ^x3: CHAR; END p; END A.");
-    m.wrong(7, "MODULE A; PROCEDURE p(" + list("g", 1, 8) + ", ^h: CHAR); END p; END A.");
-    m.wrong(7, "DEFINITION MODULE A; PROCEDURE p(" + list("g", 1, 8) + ": CHAR; VAR ^h: CHAR); END A.");
-    m.wrong(3, "MODULE A; PROCEDURE p(" + list("g", 1, 8) + ", ^g8: CHAR); END p; END A.");
+    m.right("MODULE A; PROCEDURE p(" + Mill.list("g", 1, 8) + ": CHAR); VAR " + Mill.list("x", 1, 12) + ": CHAR; END p; END A.");
+    m.wrong(7, "MODULE A; PROCEDURE p(" + Mill.list("g", 1, 8) + ": CHAR); VAR " + Mill.list("x", 1, 12) + ", ^y: CHAR; END p; END A.");
+    m.right("MODULE A; PROCEDURE p; VAR " + Mill.list("x", 1, 20) + ": CHAR; END p; END A.");
+    m.wrong(7, "MODULE A; PROCEDURE p; VAR " + Mill.list("x", 1, 20) + ": CHAR; ^y: CHAR; END p; END A.");
+    m.wrong(3, "MODULE A; PROCEDURE p; VAR " + Mill.list("x", 1, 20) + ": CHAR; ^x3: CHAR; END p; END A.");
+    m.wrong(7, "MODULE A; PROCEDURE p(" + Mill.list("g", 1, 8) + ", ^h: CHAR); END p; END A.");
+    m.wrong(7, "DEFINITION MODULE A; PROCEDURE p(" + Mill.list("g", 1, 8) + ": CHAR; VAR ^h: CHAR); END A.");
+    m.wrong(3, "MODULE A; PROCEDURE p(" + Mill.list("g", 1, 8) + ", ^g8: CHAR); END p; END A.");
   }
 
   private static void imports() {

@@ -1,4 +1,5 @@
 import java.nio.charset.StandardCharsets;
+import java.util.function.LongSupplier;
 
 /** A UnitMill under test: it feeds texts as bytes, counts what is not as due and says where. */
 final class Mill {
@@ -38,6 +39,13 @@ final class Mill {
   void refused(String call, long got, int status) {
     due(call, got, -1);
     due("status() behind " + call, x.status(), status);
+  }
+
+  /** The same, and nothing but STATUS is another one behind it. */
+  void denied(String call, LongSupplier made, int status) {
+    long before = Picture.of(x);
+    refused(call, made.getAsLong(), status);
+    due("nothing else has changed behind " + call, Picture.of(x), before);
   }
 
   /** A call that is not refused. */
@@ -110,6 +118,33 @@ final class Mill {
   static String in(String statements) {
     return "MODULE M; CONST k = 7; yes = TRUE; VAR i, j: INTEGER; c: CHAR; b: BOOLEAN; p, q: PROCESS; "
         + "a: ARRAY 5 OF INTEGER; s: ARRAY 3 OF CHAR; BEGIN " + statements + " END M.";
+  }
+
+  /** A new object for this text alone. */
+  static void isRight(String title, String text) {
+    new Mill(title).right(text);
+  }
+
+  /** A new object for this text alone, with the sign ^ as in wrong(). */
+  static void isWrong(String title, int what, String marked) {
+    new Mill(title).wrong(what, marked);
+  }
+
+  static String times(int count, String what) {
+    StringBuilder all = new StringBuilder();
+    for (int i = 0; i < count; i++) {
+      all.append(what);
+    }
+    return all.toString();
+  }
+
+  /** NAMES with a number behind each: x1, x2 and so on. */
+  static String list(String name, int from, int to) {
+    StringBuilder all = new StringBuilder();
+    for (int i = from; i <= to; i++) {
+      all.append(i > from ? ", " : "").append(name).append(i);
+    }
+    return all.toString();
   }
 
   /** A new object with a MODULE of these statements. */

@@ -1,10 +1,7 @@
-import java.lang.reflect.Array;
 import java.lang.reflect.Field;
 import java.lang.reflect.Modifier;
 import java.nio.file.Files;
 import java.nio.file.Path;
-import java.util.IdentityHashMap;
-import java.util.Map;
 
 /** LANGUAGE.md: how much room an object takes, how deep its calls go, and words that may not stand in the class. */
 final class RoomTest {
@@ -17,12 +14,12 @@ final class RoomTest {
 
   private static void room() throws Exception {
     Mill m = new Mill("room");
-    long[] before = count(m.x);
+    long[] before = Picture.room(m.x);
     System.out.println("an object takes " + before[0] + " objects, " + before[1] + " fields and elements");
     m.due("objects stay under 10,000", before[0] < 10000 ? 1 : 0, 1);
     m.due("fields and elements stay under 400,000", before[1] < 400000 ? 1 : 0, 1);
     m.ends(Mill.in("FOR i := 1 TO 99 DO WRITEINT(i) END; NEWFILE(\"a\", i); WRITEBYTE(i, 1)"), 1, all());
-    long[] after = count(m.x);
+    long[] after = Picture.room(m.x);
     m.due("calls make no objects", after[0], before[0]);
     m.due("nor elements", after[1], before[1]);
   }
@@ -33,44 +30,6 @@ final class RoomTest {
       text.append(i);
     }
     return text.toString();
-  }
-
-  private static long[] count(Object root) throws Exception {
-    Map<Object, Boolean> met = new IdentityHashMap<>();
-    java.util.ArrayDeque<Object> open = new java.util.ArrayDeque<>();
-    open.add(root);
-    met.put(root, true);
-    long elements = 0;
-    while (!open.isEmpty()) {
-      Object one = open.remove();
-      if (one.getClass().isArray()) {
-        int length = Array.getLength(one);
-        elements += length;
-        if (!one.getClass().getComponentType().isPrimitive()) {
-          for (int i = 0; i < length; i++) {
-            meet(Array.get(one, i), met, open);
-          }
-        }
-        continue;
-      }
-      for (Field field : one.getClass().getDeclaredFields()) {
-        if (Modifier.isStatic(field.getModifiers())) {
-          continue;
-        }
-        elements++;
-        if (!field.getType().isPrimitive()) {
-          field.setAccessible(true);
-          meet(field.get(one), met, open);
-        }
-      }
-    }
-    return new long[] {met.size(), elements};
-  }
-
-  private static void meet(Object other, Map<Object, Boolean> met, java.util.ArrayDeque<Object> open) {
-    if (other != null && met.put(other, true) == null) {
-      open.add(other);
-    }
   }
 
   /** The deepest calls and EXPRESSIONS in the machine: no operand may be lost. */
