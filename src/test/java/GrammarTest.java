@@ -2,6 +2,7 @@
 final class GrammarTest {
   public static void main(String[] args) {
     right();
+    anyNumber();
     wrongWords();
     cut();
     nesting();
@@ -21,6 +22,49 @@ final class GrammarTest {
         + "BEGIN END q; CONST k = 1; BEGIN ; ; p; ; q() ; END M.");
     m.right("MODULE M; VAR i: INTEGER; BEGIN IF TRUE THEN ELSIF FALSE THEN ; ELSIF TRUE THEN i := 1; ELSE END; "
         + "WHILE FALSE DO END; REPEAT UNTIL TRUE; LOOP EXIT END; FOR i := 1 TO 2 BY 3 DO END; RETURN END M.");
+  }
+
+  /** What may lack, and what may come any number of times. */
+  private static void anyNumber() {
+    Mill from = new Mill("IMPORTS");
+    from.right("DEFINITION MODULE D; CONST c = 1; d = 2; VAR x: CHAR; PROCEDURE p; END D.");
+    from.right("DEFINITION MODULE E; CONST e = 1; END E.");
+    String[] imports = {"", "FROM D IMPORT c; ", "FROM D IMPORT c, d; ", "FROM D IMPORT c, d, x, p; ", "FROM D IMPORT c; FROM E IMPORT e; ",
+        "FROM D IMPORT c; FROM D IMPORT d; FROM E IMPORT e; FROM D IMPORT x; "};
+    for (String some : imports) {
+      from.right("MODULE A; " + some + "END A.");
+      from.right("DEFINITION MODULE A; " + some + "END A.");
+      from.right("IMPLEMENTATION MODULE A; " + some + "END A.");
+    }
+    String[] parts = {"CONST ", "CONST k = 1; ", "CONST l = 1; m = 2; n = 3; ", "VAR ", "VAR v: CHAR; ", "VAR w, x: CHAR; y: ARRAY 2 OF CHAR; ",
+        "PROCEDURE p; ", "PROCEDURE q(a: CHAR): CHAR; "};
+    for (String first : parts) {
+      for (String second : parts) {
+        for (String third : parts) {
+          if (!first.equals(second) && !second.equals(third) && !first.equals(third)) {
+            Mill.isRight("HEADS in any order", "DEFINITION MODULE A; " + first + second + third + "END A.");
+            String all = first + second + third;
+            Mill.isRight("PARTS in any order", "MODULE A; " + all.replace("PROCEDURE p; ", "PROCEDURE p; END p; ")
+                .replace("PROCEDURE q(a: CHAR): CHAR; ", "PROCEDURE q(a: CHAR): CHAR; VAR b: CHAR; BEGIN RETURN a END q; ") + "BEGIN END A.");
+          }
+        }
+      }
+    }
+    String[] heads = {"p", "p()", "p(a: CHAR)", "p(a, b: CHAR)", "p(a: CHAR; b: INTEGER)", "p(VAR a: CHAR)", "p(VAR a, b: ARRAY 2 OF CHAR)",
+        "p(a: PROCESS; VAR b: BOOLEAN; c, d: CHAR)"};
+    String[] results = {"", ": INTEGER", ": CHAR", ": BOOLEAN", ": PROCESS"};
+    String[] locals = {"", "VAR ", "VAR x: CHAR; ", "VAR VAR x, y: CHAR; z: ARRAY 2 OF CHAR; VAR w: CHAR; VAR "};
+    String[] bodies = {"END p; ", "BEGIN END p; ", "BEGIN ; END p; ", "BEGIN HALT END p; ", "BEGIN HALT; HALT; END p; "};
+    for (String head : heads) {
+      for (String result : results) {
+        Mill.isRight("a HEAD", "DEFINITION MODULE A; PROCEDURE " + head + result + "; END A.");
+        for (String some : locals) {
+          for (String body : bodies) {
+            Mill.isRight("a procedure", "MODULE A; PROCEDURE " + head + result + "; " + some + body + "END A.");
+          }
+        }
+      }
+    }
   }
 
   private static void wrongWords() {

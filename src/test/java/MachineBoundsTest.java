@@ -16,6 +16,11 @@ final class MachineBoundsTest {
     forAtTheEnds();
     stepsOfRun();
     beginning();
+    beginWithZero();
+    secondOnlyIfItMatters();
+    steps();
+    loopsWithinFor();
+    longRuns();
     numbersOut();
     outAtItsEnd();
     inAtItsEnd();
@@ -314,6 +319,17 @@ final class MachineBoundsTest {
     }
     m.due("out(0), not begun", m.x.out(0), -1);
     m.denied("word(0, 0), not begun", () -> m.x.word(0, 0), 4);
+    Mill within = new Mill("start() while the first PROCESS is in a call");
+    within.begin("MODULE M; VAR p, q: PROCESS; n: INTEGER; PROCEDURE e; BEGIN LOOP END END e; PROCEDURE deep(k: INTEGER); VAR l: ARRAY 91 OF CHAR; "
+        + "BEGIN INC(n); IF k > 0 THEN deep(k - 1) ELSE TRANSFER(q, p); LOOP END END END deep; BEGIN NEWPROCESS(e, 40, p); deep(15) END M.");
+    for (int turn = 0; turn < 3; turn++) {
+      within.taken("run(200)", within.x.run(200), 0);
+      within.due("another PROCESS runs", within.x.seen(2), 2);
+      within.taken("sixteen calls of 100 words", within.x.word(0, 2), 16);
+      within.taken("start()", within.x.start(), 3);
+      within.due("the first one runs", within.x.seen(2), 1);
+      within.due("words in use", within.x.seen(4), 0);
+    }
     Mill bodies = new Mill("all BODIES once more");
     bodies.right("DEFINITION MODULE D; VAR d: INTEGER; END D.");
     bodies.right("IMPLEMENTATION MODULE D; BEGIN INC(d); WRITECHAR(\"D\") END D.");
@@ -327,6 +343,135 @@ final class MachineBoundsTest {
       bodies.taken("word d", bodies.x.word(0, 0), 2);
       bodies.taken("word m", bodies.x.word(1, 0), 1);
     }
+  }
+
+  /** All variables begin with 0 (FALSE, CHAR 0, no PROCESS), LOCALS anew with each call. */
+  private static void beginWithZero() {
+    String variables = "i: INTEGER; c: CHAR; b: BOOLEAN; p: PROCESS; a: ARRAY 3 OF INTEGER; d: ARRAY 3 OF BOOLEAN";
+    String tell = "WRITEINT(i); WRITEINT(ORD(c)); WRITEINT(ORD(b)); WRITEINT(a[0]); WRITEINT(a[2]); WRITEINT(ORD(d[2])); ";
+    String change = "i := 7; c := \"x\"; b := TRUE; a[0] := 8; a[2] := 9; d[2] := TRUE; ";
+    new Mill("at the top").ends("MODULE M; VAR " + variables + "; BEGIN " + tell + change + tell + "TRANSFER(p, p) END M.", 17,
+        "000000" + "71201891");
+    new Mill("LOCALS anew").ends("MODULE M; PROCEDURE q; VAR " + variables + "; BEGIN " + tell + change + "END q; BEGIN q; q; q END M.", HALTED,
+        "000000000000000000");
+    new Mill("no PROCESS").ends("MODULE M; VAR m, o: PROCESS; PROCEDURE q(n: INTEGER); VAR p: PROCESS; BEGIN IF n = 1 THEN p := o; "
+        + "WRITEINT(n) ELSE TRANSFER(m, p) END END q; PROCEDURE e; END e; BEGIN NEWPROCESS(e, 16, o); q(1); q(2) END M.", 17, "1");
+    new Mill("in a call in the same words").ends("MODULE M; PROCEDURE r; VAR a: ARRAY 20 OF INTEGER; i: INTEGER; BEGIN FOR i := 0 TO 19 DO "
+        + "a[i] := 5 END END r; PROCEDURE q(g: INTEGER); VAR a: ARRAY 19 OF INTEGER; i: INTEGER; BEGIN WRITEINT(i); FOR i := 0 TO 18 DO "
+        + "WRITEINT(a[i]) END; WRITEINT(g) END q; BEGIN r; q(4) END M.", HALTED, Mill.times(20, "0") + "4");
+  }
+
+  private static void secondOnlyIfItMatters() {
+    String[] second = {"(1 DIV i = 1)", "(a[7] = 1)", "(CHR(j) = c)", "(32767 + j > 0)"};
+    int[] traps = {12, 13, 14, 11};
+    for (int t = 0; t < second.length; t++) {
+      String begin = "j := 256; b := ";
+      Mill.does("FALSE AND", begin + "FALSE AND " + second[t] + "; WRITEINT(ORD(b))", HALTED, "0");
+      Mill.does("TRUE OR", begin + "TRUE OR " + second[t] + "; WRITEINT(ORD(b))", HALTED, "1");
+      Mill.does("TRUE AND", begin + "TRUE AND " + second[t] + "; WRITEINT(ORD(b))", traps[t], "");
+      Mill.does("FALSE OR", begin + "FALSE OR " + second[t] + "; WRITEINT(ORD(b))", traps[t], "");
+      Mill.does("what it was before is gone", "i := 0; b := TRUE; " + begin + "FALSE AND " + second[t] + "; WRITEINT(ORD(b)); WRITEINT(i)",
+          HALTED, "00");
+      Mill.does("what it was before is gone", "i := 0; b := FALSE; " + begin + "TRUE OR " + second[t] + "; WRITEINT(ORD(b)); WRITEINT(i)",
+          HALTED, "10");
+      Mill.does("within another one", "i := 0; j := 256; WRITEINT(7 + ORD(FALSE AND " + second[t] + ") * 3); WRITEINT(7 + ORD(TRUE OR "
+          + second[t] + ") * 3)", HALTED, "710");
+      Mill.does("the first one is asked", begin + second[t] + " AND FALSE", traps[t], "");
+      Mill.does("the first one is asked", begin + second[t] + " OR TRUE", traps[t], "");
+      Mill.does("a third one", begin + "TRUE AND FALSE AND " + second[t], HALTED, "");
+      Mill.does("a third one", begin + "FALSE OR TRUE OR " + second[t], HALTED, "");
+      Mill.does("a third one", begin + "FALSE AND TRUE OR " + second[t], traps[t], "");
+    }
+  }
+
+  /** How many STEPS these statements have; with one less they are not at their end. */
+  private static void steps(String statements, int due) {
+    String text = "MODULE M; VAR i, j: INTEGER; b: BOOLEAN; PROCEDURE p; END p; PROCEDURE q(n: INTEGER); BEGIN IF n > 0 THEN q(n - 1) END END q; "
+        + "PROCEDURE f(n: INTEGER): INTEGER; BEGIN RETURN n END f; PROCEDURE g(n: INTEGER): INTEGER; BEGIN IF n = 0 THEN RETURN 0 END; "
+        + "RETURN g(n - 1) END g; BEGIN " + statements + " END M.";
+    Mill m = new Mill("STEPS of " + statements);
+    m.begin(text);
+    m.taken("run(20000)", m.x.run(20000), HALTED);
+    m.due("seen(0)", m.x.seen(0), due);
+    if (due > 0) {
+      m.x.start();
+      m.taken("run of one less", m.x.run(due - 1), 0);
+      m.due("seen(0)", m.x.seen(0), due - 1);
+      m.taken("run(1)", m.x.run(1), HALTED);
+    }
+  }
+
+  private static void steps() {
+    String[] ones = {"i := 1", "p", "p()", "q(0)", "IF b THEN END", "IF b THEN ELSIF b THEN ELSE END", "WHILE b DO END", "REPEAT UNTIL TRUE",
+        "FOR i := 2 TO 1 DO END", "RETURN", "HALT", "INC(i)", "WRITELN", "NEWFILE(\"a\", i)", "READINT(i)"};
+    int[] due = {1, 1, 1, 2, 1, 1, 1, 1, 1, 1, 1, 1, 1, 1, 1};
+    for (int i = 0; i < ones.length; i++) {
+      steps(ones[i], due[i]);
+      steps("; ; " + ones[i] + "; ;", due[i]);
+      steps("IF TRUE THEN " + ones[i] + " END", 1 + due[i]);
+      steps("REPEAT " + ones[i] + " UNTIL TRUE", 1 + due[i]);
+      steps("LOOP " + ones[i] + "; EXIT END", ones[i].equals("RETURN") || ones[i].equals("HALT") ? 2 : 2 + due[i]);
+    }
+    steps("", 0);
+    steps("LOOP EXIT END", 2);
+    steps("WHILE i < 1 DO INC(i) END", 1 + 2);
+    steps("WHILE i < 5 DO INC(i) END", 1 + 10);
+    steps("WHILE i < 5 DO ; INC(i); ; INC(j) END", 1 + 15);
+    steps("REPEAT INC(i) UNTIL i = 1", 2);
+    steps("REPEAT INC(i) UNTIL i = 5", 1 + 5 + 4);
+    steps("LOOP INC(i); IF i = 5 THEN EXIT END END", 1 + 5 * 2 + 1 + 4);
+    steps("FOR i := 1 TO 1 DO END", 2);
+    steps("FOR i := 1 TO 5 DO END", 6);
+    steps("FOR i := 1 TO 5 DO INC(j) END", 11);
+    steps("FOR i := 1 TO 5 BY 2 DO INC(j) END", 7);
+    steps("FOR i := 5 TO 1 BY -1 DO FOR j := 1 TO 2 DO END END", 1 + 5 * (3 + 1));
+    steps("i := f(1)", 3);
+    steps("i := f(f(1)) + f(2)", 1 + 3 * 2);
+    steps("i := ABS(f(1)) + ORD(ODD(3))", 3);
+    steps("i := g(3)", 1 + 4 * 2 + 4);
+    steps("q(3)", 1 + 3 * 2 + 1);
+    steps("IF f(1) = 1 THEN END", 3);
+    steps("IF b AND (f(1) = 1) THEN END", 1);
+    steps("WHILE f(i) < 2 DO INC(i) END", 1 + 2 + 2 * (1 + 1 + 2));
+  }
+
+  /** What a FOR goes on to is not lost in what stands within it. */
+  private static void loopsWithinFor() {
+    String[] within = {
+      "j := 0; WHILE j < 3 DO INC(j) END", "j := 0; WHILE j < 0 DO INC(j) END", "j := 0; REPEAT INC(j) UNTIL j = 3", "REPEAT UNTIL TRUE",
+      "j := 0; LOOP INC(j); IF j = 3 THEN EXIT END END", "LOOP EXIT END", "FOR j := 1 TO 3 DO END", "FOR j := 3 TO 1 DO END",
+      "FOR j := 3 TO 1 BY -1 DO END", "LOOP FOR j := 1 TO 3 DO IF j = 2 THEN EXIT END END END", "IF b THEN ELSIF TRUE THEN ELSE END",
+      "IF b THEN HALT END", "p", "q(2)", "j := f(2)", "j := f(f(1)) + f(0)", "c := \"x\"; b := (c = \"x\") AND NOT TRUE OR FALSE",
+      "LOOP WHILE TRUE DO EXIT END END", "LOOP REPEAT EXIT UNTIL FALSE END", "LOOP LOOP EXIT END; EXIT END", "b := FALSE AND b OR b AND TRUE",
+      "WRITESTRING(\"\"); READINT(j); INC(j, 2); DEC(j)", "NEWFILE(\"a\", j); WRITEBYTE(j, 1); READBYTE(j, j)", "WHILE i = 99 DO LOOP END END",
+    };
+    for (String one : within) {
+      Mill m = new Mill("FOR around " + one);
+      m.ends("MODULE M; VAR i, j: INTEGER; b: BOOLEAN; c: CHAR; PROCEDURE p; BEGIN RETURN END p; PROCEDURE q(n: INTEGER); BEGIN LOOP IF n = 0 THEN "
+          + "RETURN END; FOR n := n TO 1 BY -1 DO q(n - 1); RETURN END END END q; PROCEDURE f(n: INTEGER): INTEGER; BEGIN FOR n := n TO 9 DO "
+          + "WHILE TRUE DO RETURN n END END END f; BEGIN FOR i := 1 TO 4 DO " + one + "; WRITEINT(i) END; WRITEINT(i); FOR i := 4 TO 1 BY -2 DO "
+          + one + "; WRITEINT(i) END; WRITEINT(i) END M.", HALTED, "12345420");
+      m.due("words in use", m.x.seen(4), 0);
+    }
+  }
+
+  /** Nothing piles up in a hundred thousand STEPS. */
+  private static void longRuns() {
+    Mill m = new Mill("long runs");
+    m.begin("MODULE M; VAR i, j, n: INTEGER; b: BOOLEAN; PROCEDURE p; BEGIN RETURN END p; PROCEDURE q; END q; PROCEDURE f(n: INTEGER): INTEGER; "
+        + "BEGIN RETURN n + 1 END f; BEGIN LOOP p; q; n := f(n) MOD 1000; b := FALSE AND b; IF b THEN EXIT END; FOR i := 1 TO 2 DO END; "
+        + "j := 3; WHILE j > 0 DO DEC(j) END; LOOP EXIT END; REPEAT UNTIL TRUE END END M.");
+    for (int turn = 0; turn < 60; turn++) {
+      m.taken("run(20000)", m.x.run(20000), 0);
+    }
+    m.due("STEPS", m.x.seen(0), 1200000);
+    m.taken("word b", m.x.word(0, 3), 0);
+    m.taken("word j", m.x.word(0, 1) <= 3 ? 0 : 1, 0);
+    // Behind LOOP's own STEP each turn has p and its RETURN, q, the sum with its function's two, b, IF, FOR and its two, j,
+    // WHILE with its six, LOOP, EXIT, REPEAT, and the STEP of the next turn.
+    int each = 2 + 1 + 3 + 1 + 1 + 3 + 1 + 7 + 2 + 1 + 1;
+    int sums = (1200000 - 1) / each + ((1200000 - 1) % each >= 2 + 1 + 3 ? 1 : 0);
+    m.taken("word n", m.x.word(0, 2), sums % 1000);
   }
 
   private static void numbersOut() {

@@ -25,6 +25,9 @@ final class PlaceBoundsTest {
         + "n~ := n * 2 DIV 3 MOD 4 END M ."
   };
 
+  // So many texts of these are less than 512 calls.
+  private static final int OF_ONE_OBJECT = 20;
+
   public static void main(String[] args) {
     cut();
     changed();
@@ -35,8 +38,8 @@ final class PlaceBoundsTest {
     Mill.end();
   }
 
-  private static Mill with(int before, String title) {
-    Mill m = new Mill(title);
+  private static Mill with(int before) {
+    Mill m = new Mill("with " + before + " texts before");
     for (int i = 0; i < before; i++) {
       m.right(TEXTS[i].replace("~", ""));
     }
@@ -48,12 +51,11 @@ final class PlaceBoundsTest {
   }
 
   /** WRONG 1 behind so many words that stand there by right, unless the last of them does not fit. */
-  private static void wrongBehind(int t, String[] marked, int count, String rest) {
+  private static void wrongBehind(Mill m, String[] marked, int count, String rest) {
     List<String> words = new ArrayList<>();
     for (String word : marked) {
       words.add(word.replace("~", ""));
     }
-    Mill m = with(t, "behind " + count + " words of text " + t);
     String right = joined(words, count);
     String text = rest.isEmpty() ? right : right + (count > 0 ? " " : "") + rest;
     boolean unfit = count > 0 && marked[count - 1].endsWith("~");
@@ -68,10 +70,12 @@ final class PlaceBoundsTest {
   /** n of compile(n), if words lack. */
   private static void cut() {
     for (int t = 0; t < TEXTS.length; t++) {
-      with(t + 1, "text " + t);
+      with(t + 1);
       String[] words = TEXTS[t].split(" ");
+      Mill m = null;
       for (int count = 0; count < words.length; count++) {
-        wrongBehind(t, words, count, "");
+        m = count % OF_ONE_OBJECT == 0 ? with(t) : m;
+        wrongBehind(m, words, count, "");
       }
     }
   }
@@ -80,14 +84,16 @@ final class PlaceBoundsTest {
   private static void changed() {
     for (int t = 0; t < TEXTS.length; t++) {
       String[] words = TEXTS[t].split(" ");
+      Mill m = null;
       for (int count = 0; count <= words.length; count++) {
+        m = count % (OF_ONE_OBJECT / 2) == 0 ? with(t) : m;
         boolean moduleStands = count < words.length && words[count].equals("MODULE") || count == 0;
         if (!moduleStands) {
-          wrongBehind(t, words, count, "MODULE x");
+          wrongBehind(m, words, count, "MODULE x");
         }
         boolean importStands = count > 1 && words[count - 2].equals("FROM");
         if (!importStands) {
-          wrongBehind(t, words, count, "IMPORT x");
+          wrongBehind(m, words, count, "IMPORT x");
         }
       }
     }
@@ -97,8 +103,10 @@ final class PlaceBoundsTest {
     String[] none = {"@", "\t", "\u00e9", "00", "32768", "\"", "\"a", "abcdefghijklmnopqrstu", "\"" + Mill.times(41, "s") + "\""};
     for (int t = 0; t < TEXTS.length; t++) {
       String[] words = TEXTS[t].split(" ");
+      Mill m = null;
       for (int count = 0; count <= words.length; count++) {
-        wrongBehind(t, words, count, none[count % none.length] + "\n;");
+        m = count % OF_ONE_OBJECT == 0 ? with(t) : m;
+        wrongBehind(m, words, count, none[count % none.length] + "\n;");
       }
     }
   }
@@ -144,11 +152,15 @@ final class PlaceBoundsTest {
   /** Behind this text, no words can stand but these: each other one is WRONG 1 there. */
   private static void only(String text, String these) {
     List<String> right = Arrays.asList(these.trim().split(" +"));
-    for (String word : ALL.split(" ")) {
-      if (!right.contains(word)) {
-        Mill m = new Mill("words that can't stand there");
+    String[] all = ALL.split(" ");
+    Mill m = null;
+    for (int i = 0; i < all.length; i++) {
+      if (i % 30 == 0) {
+        m = new Mill("words that can't stand there");
         m.right("DEFINITION MODULE D; CONST c = 1; END D.");
-        m.wrong(1, text + (text.isEmpty() ? "^" : " ^") + word + " ;");
+      }
+      if (!right.contains(all[i])) {
+        m.wrong(1, text + (text.isEmpty() ? "^" : " ^") + all[i] + " ;");
       }
     }
   }

@@ -34,6 +34,15 @@ final class ProcessBoundsTest {
         + "TRANSFER(a[me], m) END END count; BEGIN FOR n := 1 TO 7 DO NEWPROCESS(count, 400, a[n]); TRANSFER(m, a[n]) END; "
         + "FOR n := 7 TO 1 BY -1 DO TRANSFER(m, a[n]) END END M.", HALTED, "1121314151617172625242322212");
     each.due("PROCESSES", each.x.seen(5), 8);
+    Mill all = new Mill("all words of all eight");
+    all.begin(HEAD + "PROCEDURE fill(VAR x: ARRAY 280 OF INTEGER; k: INTEGER); VAR i: INTEGER; BEGIN FOR i := 0 TO 279 DO x[i] := x[i] * 2 + k + i "
+        + "END END fill; PROCEDURE sum(VAR x: ARRAY 280 OF INTEGER; k: INTEGER): INTEGER; VAR i, s: INTEGER; BEGIN FOR i := 0 TO 279 DO "
+        + "IF x[i] = k + i THEN INC(s) END END; RETURN s END sum; PROCEDURE count; VAR x: ARRAY 280 OF INTEGER; me: INTEGER; BEGIN me := n; "
+        + "fill(x, me * 1000); TRANSFER(a[me], m); WRITEINT(sum(x, me * 1000)); WRITECHAR(\" \"); TRANSFER(a[me], m) END count; PROCEDURE first; "
+        + "VAR x: ARRAY 280 OF INTEGER; BEGIN fill(x, 9000); FOR n := 1 TO 7 DO NEWPROCESS(count, 400, a[n]); TRANSFER(m, a[n]) END; "
+        + "FOR n := 7 TO 1 BY -1 DO TRANSFER(m, a[n]) END; WRITEINT(sum(x, 9000)) END first; BEGIN first END M.");
+    all.taken("run(20000)", all.x.run(20000), HALTED);
+    all.dueText("what each of them has", all.out(), Mill.times(7, "280 ") + "280");
   }
 
   private static void handedToNone() {

@@ -8,6 +8,8 @@ final class RoomTest {
   public static void main(String[] args) throws Exception {
     room();
     deepestCalls();
+    asManyNamesAsCanCome();
+    asMuchCodeAsCanCome();
     source();
     Mill.end();
   }
@@ -49,6 +51,48 @@ final class RoomTest {
     m.x.start();
     m.due("it comes to its TRAP", m.x.run(20000), 15);
     m.due("words in use", m.x.seen(4), 1600);
+  }
+
+  private static final String LETTERS = "ABCDEFGHIJKLMNOPQRSTUVWXYZabcdefghijklmnopqrstuvwxyz";
+  private static final String BOTH = LETTERS + "0123456789";
+
+  /** Texts of 4000 bytes as long as there are calls, with no NAME twice: the next one is read as if they had not been. */
+  private static void asManyNamesAsCanCome() {
+    Mill m = new Mill("as many NAMES as can come");
+    int next = 0;
+    for (int t = 0; t < 4; t++) {
+      StringBuilder text = new StringBuilder("MODULE A; ");
+      while (text.length() < 3990) {
+        text.append(LETTERS.charAt(next % 52)).append(BOTH.charAt(next / 52 % 62));
+        text.append(next >= 52 * 62 ? BOTH.charAt(next / (52 * 62)) : "").append(' ');
+        next++;
+      }
+      m.due("compile text " + t, m.compile(text.toString()), 1);
+      m.due("its place", m.x.wrong(1), 10);
+    }
+    m.right("MODULE lastOne; VAR someName, anotherName: INTEGER; BEGIN someName := 5; anotherName := someName * 2; WRITEINT(anotherName) END lastOne.");
+    m.x.link(0);
+    m.x.start();
+    m.due("run(9)", m.x.run(9), 1);
+    m.due("word(0, 1)", m.x.word(0, 1), 10);
+  }
+
+  /** Texts of 4000 bytes as long as there are calls, with as much to do in them as can be: each is there whole. */
+  private static void asMuchCodeAsCanCome() {
+    Mill m = new Mill("as much code as can come");
+    int[] terms = {1950, 1949, 1948, 1947};
+    for (int t = 0; t < terms.length; t++) {
+      m.due("compile unit " + t, m.compile("MODULE M" + t + ";VAR i,j:INTEGER;BEGIN i:=1;j:=0" + Mill.times(terms[t], "-i") + ";i:=9 END M" + t
+          + "."), 0);
+    }
+    m.due("one unit more", m.compile("MODULE N;VAR i,j:INTEGER;BEGIN i:=1;j:=0" + Mill.times(1500, "-i") + ";i:=9 END N."), 0);
+    for (int k = 0; k <= 4; k++) {
+      m.due("link(" + k + ")", m.x.link(k), 1);
+      m.x.start();
+      m.due("run(9)", m.x.run(9), 1);
+      m.due("word(" + k + ", 0)", m.x.word(k, 0), 9);
+      m.due("word(" + k + ", 1)", m.x.word(k, 1), k < 4 ? -terms[k] : -1500);
+    }
   }
 
   private static void source() throws Exception {
