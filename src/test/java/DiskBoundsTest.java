@@ -150,6 +150,12 @@ final class DiskBoundsTest {
     m.denied("name(12, 0)", () -> m.x.name(12, 0), 2);
     m.denied("name(0, the most)", () -> m.x.name(0, Integer.MAX_VALUE), 2);
     m.denied("name(0, the least)", () -> m.x.name(0, Integer.MIN_VALUE), 2);
+    Mill last = does("the last FILE with the longest name", files(0, 10) + "NEWFILE(\"" + forty + "\", i); WRITEBYTE(i, 99); CLOSEFILE(i); OPENFILE(\""
+        + forty + "\", i); READBYTE(i, j); WRITEINT(i); WRITEINT(j); OPENFILE(\"" + forty.substring(1) + "/\", i); WRITEINT(i)", HALTED, "099-1");
+    last.taken("file(11, 2)", last.x.file(11, 2), 40);
+    last.taken("name(11, 39)", last.x.name(11, 39), '/');
+    last.denied("name(11, 40)", () -> last.x.name(11, 40), 2);
+    last.taken("file(11, 3)", last.x.file(11, 3), 11);
   }
 
   /** SETPOS: 0 at least, the length at most. */
